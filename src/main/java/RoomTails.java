@@ -331,6 +331,9 @@ public final class RoomTails {
         int best = NOT_FOUND;
         for (int door = 0; door < house.doorCount; door++) {
             for (int target = 0; target <= WIDEST; target += WIDEST) {
+                if (house.wouldStayAimed(door, target)) {
+                    continue;
+                }
                 // only a shorter one is better, so the search ends one step ahead of the best one
                 int steps = tailIfAimed(room, door, target, shortest - 1);
                 if (steps != NOT_FOUND) {
@@ -563,12 +566,9 @@ public final class RoomTails {
         // what will arrive at a side, by the step in which it does
         final int[] arriving = new int[2 * ARRIVALS];
 
-        void begin(int one, int other) {
+        void begin(int one, int other, int newArea, int newSpeed, int newDelay) {
             sides[0] = one;
             sides[1] = other;
-        }
-
-        void build(int newArea, int newSpeed, int newDelay) {
             area = newArea;
             speed = newSpeed;
             delay = newDelay;
@@ -834,8 +834,7 @@ public final class RoomTails {
                 return LIMIT_REACHED;
             }
             Door door = doors[doorCount];
-            door.begin(one, other);
-            door.build(area, speed, delay);
+            door.begin(one, other, area, speed, delay);
             return doorCount++;
         }
 
@@ -871,6 +870,11 @@ public final class RoomTails {
                 return DENSITIES_DIFFER;
             }
             return 0;
+        }
+
+        boolean wouldStayAimed(int door, int target) {
+            Door it = doorAt(door);
+            return it == null || it.locked || it.target == target;
         }
 
         private int densityAt(int place) {
@@ -940,15 +944,15 @@ public final class RoomTails {
         }
 
         void goOn() {
-            for (Room room : rooms) {
-                room.keepEnergy(present);
+            for (int i = 0; i < roomCount && i < rooms.length; i++) {
+                rooms[i].keepEnergy(present);
             }
             aimPlannedDoors();
             moveDoors();
             giveSounds();
             plan.dropEnded(present);
-            for (Room room : rooms) {
-                room.absorbShare();
+            for (int i = 0; i < roomCount && i < rooms.length; i++) {
+                rooms[i].absorbShare();
             }
             sendThroughDoors();
             letArrive();
@@ -968,7 +972,8 @@ public final class RoomTails {
         }
 
         private void moveDoors() {
-            for (Door door : doors) {
+            for (int i = 0; i < doorCount && i < doors.length; i++) {
+                Door door = doors[i];
                 int before = door.opening;
                 door.move();
                 if (door.opening > before && isSoundAt(door)) {
@@ -999,12 +1004,13 @@ public final class RoomTails {
         }
 
         private void sendThroughDoors() {
-            for (Door door : doors) {
+            for (int i = 0; i < doorCount && i < doors.length; i++) {
                 for (int side = 0; side < 2; side++) {
-                    door.leaving[side] = wouldGo(door, side);
+                    doors[i].leaving[side] = wouldGo(doors[i], side);
                 }
             }
-            for (Door door : doors) {
+            for (int i = 0; i < doorCount && i < doors.length; i++) {
+                Door door = doors[i];
                 for (int side = 0; side < 2; side++) {
                     Room room = roomAt(door.sides[side]);
                     if (room != null) {
@@ -1016,7 +1022,8 @@ public final class RoomTails {
         }
 
         private void letArrive() {
-            for (Door door : doors) {
+            for (int i = 0; i < doorCount && i < doors.length; i++) {
+                Door door = doors[i];
                 for (int side = 0; side < 2; side++) {
                     int energy = door.takeArrived(side, present);
                     Room room = roomAt(door.sides[side]);
