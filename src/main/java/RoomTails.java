@@ -976,14 +976,11 @@ public final class RoomTails {
                 Door door = doors[i];
                 int before = door.opening;
                 door.move();
-                if (door.opening > before && isSoundAt(door)) {
+                if (door.opening > before
+                        && plan.soundsHeard(door.sides[0], present) + plan.soundsHeard(door.sides[1], present) > 0) {
                     openedAmidSound++;
                 }
             }
-        }
-
-        private boolean isSoundAt(Door door) {
-            return plan.soundsHeard(door.sides[0], present) + plan.soundsHeard(door.sides[1], present) > 0;
         }
 
         private void giveSounds() {

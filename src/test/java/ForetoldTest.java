@@ -91,6 +91,15 @@ public final class ForetoldTest {
         promise(20).after("room(10, 514)", "room(10, 0)", "door(1, 0, 8, 9, 5)", "open(0, 8)", "sound(0, 0, 1, 1526)",
                 "sound(1, 0, 1, 5778)", "pass(6)").calls("tail(0) = 47", "tailWith(0, 0, 0) = 11", "tailWith(0, 0, 10) = 11",
                 "bestDoor(0, 0) = 0", "bestDoor(0, 1) = 11");
+        // shorter by one step
+        promise(20).after("room(10, 67)", "room(10, 0)", "door(1, 0, 1, 7, 2)", "door(0, 1, 1, 3, 3)", "open(0, 8)", "open(1, 6)",
+                "sound(0, 0, 1, 170)", "sound(1, 0, 1, 94)", "pass(2)").calls("tail(0) = 88", "bestDoor(0, 0) = 0",
+                "bestDoor(0, 1) = 87", "tailWith(0, 0, 0) = 87", "tailWith(0, 0, 10) = 87");
+        // 200 steps are found, where tail() finds none, 201 are not
+        promise(20).after("room(176, 0)", "door(0, 8, 6, 10, 0)", "sound(0, 0, 1, 1000000)", "pass(1)").calls("tail(0) = -4",
+                "tailWith(0, 0, 10) = 200", "bestDoor(0, 0) = 10", "bestDoor(0, 1) = 200");
+        promise(20).after("room(177, 0)", "door(0, 8, 6, 10, 0)", "sound(0, 0, 1, 1000000)", "pass(1)").calls("tail(0) = -4",
+                "tailWith(0, 0, 10) = -4", "bestDoor(0, 0) = -4", "bestDoor(0, 1) = -4");
         promise(20).after("room(10, 500)", "room(10, 0)", "door(1, 0, 5, 10, 0)", "open(0, 10)", "sound(1, 0, 1, 1000000)",
                 "pass(1)").calls("tailWith(0, 0, 0) = 10", "bestDoor(0, 0) = 0", "bestDoor(0, 1) = 10");
     }

@@ -20,6 +20,7 @@ public final class RoomsAndDoorsTest {
         test.energyThroughADoorWraps();
         test.counts();
         test.undoing();
+        test.undoingSteps();
         test.everyChangeIsRecorded();
         test.errorsAreNoChanges();
         test.check.end();
@@ -194,6 +195,18 @@ public final class RoomsAndDoorsTest {
         promise(11).after("room(10, 500)", "sound(0, 0, 1, 1000)", "set(0, 7)", "set(1, 8)", "pass(1)").calls(
                 "undo() = 3", "undo() = 2", "count(21) = 10", "undo() = 1", "count(20) = 1000000", "undo() = 0",
                 "count(2) = 0", "count(9) = 0");
+    }
+
+    private void undoingSteps() {
+        promise(11).after("room(20, 0)", "door(0, 8, 10, 10, 1)", "planDoor(0, 0, 10)", "sound(0, 0, 3, 100)", "pass(2)").calls(
+                "roomOf(0, 6) = 200", "count(7) = 50", "count(8) = 200", "count(10) = 1", "undo() = 3", "roomOf(0, 6) = 0",
+                "count(7) = 0", "count(8) = 0", "count(10) = 0", "count(2) = 2", "pass(1) = 1", "undo() = 3", "pass(3) = 3",
+                "pass(1) = 4", "count(7) = 212", "undo() = 3", "count(7) = 125", "roomOf(0, 6) = 300", "undo() = 2");
+        // the energies of the steps gone by are the ones of then
+        promise(11).after("room(10, 500)", "sound(0, 0, 1, 524288)", "pass(33)", "sound(0, 33, 1, 8)", "pass(1)").calls(
+                "roomOf(0, 4) = 2", "fell(0, 32) = 115", "pass(10) = 44", "undo() = 3", "fell(0, 32) = 115", "undo() = 2");
+        promise(11).after("room(10, 0)", "sound(0, 0, 1, 1)", "sound(0, 33, 1, 62)", "pass(34)").calls("fell(0, 32) = 95",
+                "sound(0, 34, 1, 1) = 1", "pass(10) = 44", "fell(0, 10) = 99", "undo() = 3", "fell(0, 32) = 95");
     }
 
     private void everyChangeIsRecorded() {

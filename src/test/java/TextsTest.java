@@ -134,6 +134,8 @@ public final class TextsTest {
 
     private void loadingNothing() {
         promise(28).calls("load() = 0", "count(11) = 1", "load() = 0", "count(11) = 2", "undo() = 1", "undo() = 0", "undo() = -2");
+        promise(28).after("room(10, 0)", "door(0, 8, 1, 1, 0)").text("d0@0:1;s0@0*1=1;d00@0000:00;").calls("fault(0) = -4",
+                "load() = 3", "count(2) = 3");
         promise(28).after("room(10, 0)").calls("load() = 0", "undo() = 1", "count(0) = 1", "undo() = 0", "count(0) = 0");
     }
 }

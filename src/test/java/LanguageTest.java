@@ -1,0 +1,42 @@
+import java.io.IOException;
+import java.nio.file.Files;
+import java.nio.file.Path;
+import java.util.regex.Matcher;
+import java.util.regex.Pattern;
+
+/** Looks for the words and signs that LANGUAGE.md rules out; started where the project's folder is the present one. */
+public final class LanguageTest {
+    private static final Path PROGRAM = Path.of("src/main/java/RoomTails.java");
+    private static final String[] RULED_OUT = {
+        "\\b(throw|throws|try|catch|finally|synchronized|assert|import|package|native|volatile|transient)\\b",
+        "->", "::", "@\\w", "\\bExact\\b|\\w+Exact\\s*\\(", "\\bSystem\\.(?!arraycopy\\b)", "\\bstatic\\s*\\{",
+        "\\b(Object|Thread|Random|Runtime|Class|Throwable|Exception|HashMap|Scanner)\\b",
+        "\\b(equals|hashCode|toString)\\s*\\(", "\\b(protected|strictfp|var|yield)\\b", "\"[^\"]*\"\\s*\\+"
+    };
+    private static final int MOST_LINES_OF_A_METHOD = 60;
+
+    public static void main(String[] args) throws IOException {
+        Check check = new Check("LanguageTest");
+        check.promise("LANGUAGE.md");
+        String code = withoutComments(Files.readString(PROGRAM));
+        for (String pattern : RULED_OUT) {
+            Matcher matcher = Pattern.compile(pattern).matcher(code.replaceAll("'.'", "' '"));
+            check.due("found " + pattern, matcher.find() ? 1 : 0, 0);
+        }
+        Matcher methods = Pattern.compile("(?m)^( {4}| {8})[^\\s/*].*\\) \\{\\n((?:(?!\\1\\}).*\\n)*)\\1\\}").matcher(code);
+        int found = 0;
+        while (methods.find()) {
+            found++;
+            int lines = methods.group(2).split("\n").length + 2;
+            check.due("a long method: " + methods.group(0).lines().findFirst().orElse("").trim(),
+                    lines > MOST_LINES_OF_A_METHOD ? lines : 0, 0);
+        }
+        check.due("too few methods were found", found < 60 ? found : 0, 0);
+        check.due("signs beyond 127", code.chars().filter(sign -> sign > 127).count(), 0);
+        check.end();
+    }
+
+    private static String withoutComments(String text) {
+        return text.replaceAll("(?s)/\\*.*?\\*/", "").replaceAll("//.*", "");
+    }
+}
