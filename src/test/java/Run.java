@@ -1,19 +1,8 @@
-import java.lang.reflect.Method;
-import java.util.HashMap;
-import java.util.Map;
-
 /** A new object and calls of it, written as in "room(10, 0) = 0": what stands behind "=" is the answer that is due. */
 final class Run {
-    private static final Map<String, Method> METHODS = new HashMap<>();
-
-    static {
-        for (Method method : RoomTails.class.getMethods()) {
-            METHODS.putIfAbsent(method.getName(), method);
-        }
-    }
-
     private final Check check;
     private final RoomTails object = new RoomTails();
+    private int made;
 
     Run(Check check) {
         this.check = check;
@@ -21,9 +10,8 @@ final class Run {
 
     Run calls(String... lines) {
         for (String line : lines) {
-            int equals = line.indexOf('=');
-            String call = line.substring(0, equals).trim();
-            check.due(call, answer(call), Long.parseLong(line.substring(equals + 1).trim()));
+            String call = Calls.callIn(line);
+            check.due(call, answer(call), Calls.dueIn(line));
         }
         return this;
     }
@@ -44,32 +32,25 @@ final class Run {
     }
 
     Run text(String text) {
-        object.clearText();
-        for (int i = 0; i < text.length(); i++) {
-            object.type(text.charAt(i));
+        answer("clearText()");
+        for (char character : text.toCharArray()) {
+            answer("type(" + (int) character + ")");
         }
         return this;
     }
 
     Run faultOf(String text, int position, int reason) {
         text(text);
-        check.due("fault(0) of " + text, object.fault(0), position);
-        check.due("fault(1) of " + text, object.fault(1), reason);
+        check.due("fault(0) of " + text, answer("fault(0)"), position);
+        check.due("fault(1) of " + text, answer("fault(1)"), reason);
         return this;
     }
 
-    private int answer(String call) {
-        int bracket = call.indexOf('(');
-        String inside = call.substring(bracket + 1, call.lastIndexOf(')')).trim();
-        String[] parts = inside.isEmpty() ? new String[0] : inside.split(",");
-        Object[] arguments = new Object[parts.length];
-        for (int i = 0; i < parts.length; i++) {
-            arguments[i] = Integer.parseInt(parts[i].trim());
+    int answer(String call) {
+        made++;
+        if (made > Calls.MOST) {
+            throw new IllegalStateException(call + " is a call too many: nothing is promised about it");
         }
-        try {
-            return (Integer) METHODS.get(call.substring(0, bracket)).invoke(object, arguments);
-        } catch (ReflectiveOperationException e) {
-            throw new IllegalStateException(call, e);
-        }
+        return Calls.answer(object, call);
     }
 }
