@@ -27,8 +27,8 @@ public final class RangesTest {
         return new Story(check).then("room(100, 10) = 0", "room(50, 0) = 1", "room(1000, 5) = 2", "door(0, 1, 20, 3, 2) = 0",
                 "door(1, 8, 7, 4, 1) = 1", "door(2, 0, 30, 10, 5) = 2", "open(0, 9) = 0", "open(1, 5) = 0", "lock(2, 1) = 0",
                 "sound(0, 0, 4, 1000) = 1", "sound(1, 2, 5, 500) = 2", "sound(2, 0, 1, 77777) = 3", "planDoor(1, 6, 8) = 4",
-                "sound(0, 9, 1, 3) = 5", "planDoor(0, 4, 0) = 6", "set(0, 500) = 1000000", "set(1, 60) = 10", "pass(3) = 3")
-            .text("s0@9*2=7;d1@").then("set(1, 61) = 60");
+                "sound(0, 9, 1, 3) = 5", "planDoor(0, 4, 0) = 6", "set(0, 500) = 1000000", "set(1, 60) = 10",
+                "pass(3) = 3").text("s0@9*2=7;d1@").then("set(1, 61) = 60");
     }
 
     /** Each of the arguments by itself out of its range, the others being right; then each at its ends. */
@@ -117,8 +117,10 @@ public final class RangesTest {
         check.promise("no room or door with this number");
         Story empty = new Story(check);
         Story busy = busyHouse();
-        String[] withRoom = {"door(#, 8, 5, 5, 3)", "roomOf(#, 0)", "roomOf(#, 4)", "sound(#, 7, 2, 70)", "way(#, #)", "way(#, 8)",
-            "tail(#)", "rise(#)", "peak(#, 0)", "fell(#, 1)", "bestDoor(#, 0)", "tailWith(#, 0, 5)"};
+        String[] withRoom = {
+            "door(#, 8, 5, 5, 3)", "roomOf(#, 0)", "roomOf(#, 4)", "sound(#, 7, 2, 70)", "way(#, #)", "way(#, 8)",
+            "tail(#)", "rise(#)", "peak(#, 0)", "fell(#, 1)", "bestDoor(#, 0)", "tailWith(#, 0, 5)"
+        };
         String[] withDoor = {"open(#, 4)", "refusal(#, 4)", "lock(#, 1)", "lock(#, 0)", "doorOf(#, 0)", "planDoor(#, 7, 2)",
             "tailWith(0, #, 5)"};
         for (int number = 0; number <= 13; number++) {

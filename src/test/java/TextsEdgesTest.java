@@ -46,25 +46,31 @@ public final class TextsEdgesTest {
     }
 
     private void lengths() {
-        Story text = sentence("There is a text of at most 80 characters, initially empty").keeps("count(12) = 0", "fault(0) = -4", "clearText() = 0");
+        Story text = sentence("There is a text of at most 80 characters, initially empty")
+                .keeps("count(12) = 0", "fault(0) = -4", "clearText() = 0");
         for (int length = 1; length <= 80; length++) {
             text.then("type(" + (31 + length) + ") = " + length);
         }
         text.keeps("count(12) = 80", "type(32) = -3", "type(126) = -3", "type(31) = -1", "type(127) = -1", "type(59) = -3");
-        sentence("Returns the length of the text; INVALID_ARGUMENT if character is out of range; LIMIT_REACHED if it has 80 characters.").times(79,
-                "type(65)").then("type(65) = 80").keeps("type(65) = -3", "type(128) = -1").then("clearText() = 80", "type(65) = 1");
+        sentence("Returns the length of the text; INVALID_ARGUMENT if character is out of range; LIMIT_REACHED if it has 80 characters.")
+                .times(79, "type(65)").then("type(65) = 80").keeps("type(65) = -3", "type(128) = -1")
+                .then("clearText() = 80", "type(65) = 1");
         // the last character is part of the text: it is the end of the eleventh entry
         hasFault(house("There is a text of at most 80 characters"), SEVENTY_NINE, 73, 1);
         hasFault(house("There is a text of at most 80 characters"), SEVENTY_NINE + ":", 73, 1);
-        isFaultless(house("There is a text of at most 80 characters"), "s0@3*1=0000001;s0@3*1=0000001;s0@3*1=0000001;s0@3*1=0000001;s0@0003*01=0000001;", 5);
+        isFaultless(house("There is a text of at most 80 characters"),
+                        "s0@3*1=0000001;s0@3*1=0000001;s0@3*1=0000001;s0@3*1=0000001;s0@0003*01=0000001;", 5);
         // a character that is refused is not part of it
-        house("LIMIT_REACHED if it has 80 characters.").text(SEVENTY_NINE.substring(0, 73)).times(7, "type(48)").then("type(59) = -3").keeps("count(12) = 80",
-                "fault(0) = 73", "fault(1) = 1");
+        house("LIMIT_REACHED if it has 80 characters.").text(SEVENTY_NINE.substring(0, 73)).times(7, "type(48)")
+                .then("type(59) = -3").keeps("count(12) = 80", "fault(0) = 73", "fault(1) = 1");
     }
 
     private void characters() {
-        sentence("character: 32 to 126").keeps("type(31) = -1", "type(127) = -1", "type(0) = -1", "type(-1) = -1", "type(-32) = -1", "type(288) = -1",
-                "type(65568) = -1", "type(65651) = -1", "type(" + LEAST + ") = -1", "type(" + MOST + ") = -1").then("type(32) = 1", "type(126) = 2");
+        sentence("character: 32 to 126")
+                .keeps("type(31) = -1", "type(127) = -1", "type(0) = -1", "type(-1) = -1", "type(-32) = -1",
+                        "type(288) = -1", "type(65568) = -1", "type(65651) = -1", "type(" + LEAST + ") = -1",
+                        "type(" + MOST + ") = -1")
+                .then("type(32) = 1", "type(126) = 2");
         // each of them is one that an entry may consist of, or a fault
         for (int character = 32; character <= 126; character++) {
             boolean isDigit = character >= '0' && character <= '9';
@@ -74,37 +80,49 @@ public final class TextsEdgesTest {
     }
 
     private void emptying() {
-        sentence("Returns the length it had.").keeps("clearText() = 0").then("type(65)", "clearText() = 1", "clearText() = 0").times(80, "type(66)").then(
-                "clearText() = 80").keeps("count(12) = 0", "clearText() = 0", "fault(0) = -4").then("type(65) = 1");
+        sentence("Returns the length it had.").keeps("clearText() = 0")
+                .then("type(65)", "clearText() = 1", "clearText() = 0").times(80, "type(66)").then("clearText() = 80")
+                .keeps("count(12) = 0", "clearText() = 0", "fault(0) = -4").then("type(65) = 1");
         // what was behind a text's end is none of it
-        house("Empties the text.").text("d0@9:1;d0@9:2;").text("d0@9:1").keeps("fault(0) = 0", "fault(1) = 1", "load() = -2").then("type(59) = 7").keeps(
-                "fault(0) = -4").changes("load() = 1");
+        house("Empties the text.").text("d0@9:1;d0@9:2;").text("d0@9:1")
+                .keeps("fault(0) = 0", "fault(1) = 1", "load() = -2").then("type(59) = 7").keeps("fault(0) = -4")
+                .changes("load() = 1");
         house("Empties the text.").text("x").then("clearText()").keeps("fault(0) = -4").changes("load() = 0");
     }
 
     private void digits() {
         String digits = "Room and door have 1 or 2 digits, the step 1 to 4, steps and target 1 or 2, the energy 1 to 7 digits; zeros in front are allowed.";
-        String[] right = {"s0@3*1=1;", "s00@3*1=1;", "s01@3*1=1;", "s0@03*1=1;", "s0@003*1=1;", "s0@0003*1=1;", "s0@5000*1=1;", "s0@3*01=1;", "s0@3*20=1;",
-            "s0@3*1=01;", "s0@3*1=001;", "s0@3*1=0001;", "s0@3*1=00001;", "s0@3*1=000001;", "s0@3*1=0000001;", "s0@3*1=1000000;", "s00@0003*09=0000009;",
-            "d0@3:1;", "d00@3:1;", "d0@03:1;", "d0@003:1;", "d0@0003:1;", "d0@3:0;", "d0@3:00;", "d0@3:01;", "d0@3:10;"};
+        String[] right = {
+            "s0@3*1=1;", "s00@3*1=1;", "s01@3*1=1;", "s0@03*1=1;", "s0@003*1=1;", "s0@0003*1=1;", "s0@5000*1=1;",
+            "s0@3*01=1;", "s0@3*20=1;", "s0@3*1=01;", "s0@3*1=001;", "s0@3*1=0001;", "s0@3*1=00001;", "s0@3*1=000001;",
+            "s0@3*1=0000001;", "s0@3*1=1000000;", "s00@0003*09=0000009;", "d0@3:1;", "d00@3:1;", "d0@03:1;", "d0@003:1;",
+            "d0@0003:1;", "d0@3:0;", "d0@3:00;", "d0@3:01;", "d0@3:10;"
+        };
         for (String text : right) {
             isFaultless(house(digits), text, 1);
         }
-        String[] wrong = {"s@3*1=1;", "s000@3*1=1;", "s0@*1=1;", "s0@00003*1=1;", "s0@50000*1=1;", "s0@3*=1;", "s0@3*001=1;", "s0@3*1=;", "s0@3*1=00000001;",
-            "d@3:1;", "d000@3:1;", "d0@:1;", "d0@00003:1;", "d0@3:;", "d0@3:001;", "d0@3:010;", "s 0@3*1=1;", "s-0@3*1=1;", "s+0@3*1=1;", "d0@3:-1;", "d0@ 3:1;"};
+        String[] wrong = {
+            "s@3*1=1;", "s000@3*1=1;", "s0@*1=1;", "s0@00003*1=1;", "s0@50000*1=1;", "s0@3*=1;", "s0@3*001=1;", "s0@3*1=;",
+            "s0@3*1=00000001;", "d@3:1;", "d000@3:1;", "d0@:1;", "d0@00003:1;", "d0@3:;", "d0@3:001;", "d0@3:010;",
+            "s 0@3*1=1;", "s-0@3*1=1;", "s+0@3*1=1;", "d0@3:-1;", "d0@ 3:1;"
+        };
         for (String text : wrong) {
             hasFault(house(digits), text, 0, 1);
         }
         // the zeros in front are no part of the number
-        house(digits).text("s01@0012*05=0000678;d00@0004:07;").then("load() = 2").keeps("plan(0, 0) = 4", "plan(0, 2) = 0", "plan(0, 4) = 7", "plan(1, 0) = 12",
-                "plan(1, 2) = 1", "plan(1, 3) = 5", "plan(1, 4) = 678", "count(9) = 3390");
+        house(digits).text("s01@0012*05=0000678;d00@0004:07;").then("load() = 2")
+                .keeps("plan(0, 0) = 4", "plan(0, 2) = 0", "plan(0, 4) = 7", "plan(1, 0) = 12", "plan(1, 2) = 1",
+                        "plan(1, 3) = 5", "plan(1, 4) = 678", "count(9) = 3390");
     }
 
     private void semicolons() {
         String form = "1 it is not of this form, its \";\" included";
-        String[] wrong = {"s0@3*1=1", "d0@3:1", "s", "d", ";", "s;", "d;", "s0;", "s0@;", "s0@3;", "s0@3*;", "s0@3*1;", "s0@3*1=;", "d0;", "d0@;", "d0@3;", "d0@3:;",
-            "s0@3*1=1:", "s0@3*1=1,", "s0@3*1=1 ;", "s0@3*1=1:;", "d0@3:1 ;", "d0@3:1=;", "s0@3:1;", "d0@3*1=1;", "s0@3*1:1;", "d0@3=1;", "s0@3=1*1;", "S0@3*1=1;",
-            "D0@3:1;", "0@3:1;", " d0@3:1;", "dd0@3:1;", "x0@3:1;", "s0,3*1=1;", "s0@3x1=1;"};
+        String[] wrong = {
+            "s0@3*1=1", "d0@3:1", "s", "d", ";", "s;", "d;", "s0;", "s0@;", "s0@3;", "s0@3*;", "s0@3*1;", "s0@3*1=;", "d0;",
+            "d0@;", "d0@3;", "d0@3:;", "s0@3*1=1:", "s0@3*1=1,", "s0@3*1=1 ;", "s0@3*1=1:;", "d0@3:1 ;", "d0@3:1=;",
+            "s0@3:1;", "d0@3*1=1;", "s0@3*1:1;", "d0@3=1;", "s0@3=1*1;", "S0@3*1=1;", "D0@3:1;", "0@3:1;", " d0@3:1;",
+            "dd0@3:1;", "x0@3:1;", "s0,3*1=1;", "s0@3x1=1;"
+        };
         for (String text : wrong) {
             hasFault(house(form), text, 0, 1);
         }
@@ -155,12 +173,17 @@ public final class TextsEdgesTest {
 
     private void ranges() {
         String sentence = "3 a number is out of its range (steps of the plan: 0 to 5000)";
-        String[] right = {"s0@5000*1=1;", "s0@3*1=1;", "s0@3*20=1;", "s0@3*1=1000000;", "d0@5000:1;", "d0@3:0;", "d0@3:10;"};
+        String[] right = {
+            "s0@5000*1=1;", "s0@3*1=1;", "s0@3*20=1;", "s0@3*1=1000000;", "d0@5000:1;", "d0@3:0;", "d0@3:10;"
+        };
         for (String text : right) {
             isFaultless(house(sentence), text, 1);
         }
-        String[] wrong = {"s0@5001*1=1;", "s0@9999*1=1;", "s0@3*0=1;", "s0@3*00=1;", "s0@3*21=1;", "s0@3*99=1;", "s0@3*1=0;", "s0@3*1=0000000;", "s0@3*1=1000001;",
-            "s0@3*1=9999999;", "s0@3*99=9999999;", "d0@5001:1;", "d0@9999:1;", "d0@3:11;", "d0@3:99;"};
+        String[] wrong = {
+            "s0@5001*1=1;", "s0@9999*1=1;", "s0@3*0=1;", "s0@3*00=1;", "s0@3*21=1;", "s0@3*99=1;", "s0@3*1=0;",
+            "s0@3*1=0000000;", "s0@3*1=1000001;", "s0@3*1=9999999;", "s0@3*99=9999999;", "d0@5001:1;", "d0@9999:1;",
+            "d0@3:11;", "d0@3:99;"
+        };
         for (String text : wrong) {
             hasFault(house(sentence), text, 0, 3);
         }
@@ -174,7 +197,8 @@ public final class TextsEdgesTest {
             hasFault(house(sentence), text, 0, 4);
         }
         // it becomes a fault, and undo takes it back
-        Story late = house(sentence).text("s0@3*1=1;").keeps("fault(1) = -4").then("pass(1)").keeps("fault(0) = 0", "fault(1) = 4", "load() = -2");
+        Story late = house(sentence).text("s0@3*1=1;").keeps("fault(1) = -4").then("pass(1)")
+                .keeps("fault(0) = 0", "fault(1) = 4", "load() = -2");
         late.then("undo()").keeps("fault(1) = -4").changes("load() = 1");
         Story last = sentence(sentence).then("room(10, 0)").times(100, "pass(50)");
         isFaultless(last, "s0@5000*20=1000000;", 1);
@@ -201,12 +225,13 @@ public final class TextsEdgesTest {
         hasFault(house(sentence).times(6, "planDoor(0, 9, 1)"), eleven, 70, 5);
         hasFault(house(sentence).times(7, "planDoor(0, 9, 1)"), eleven, 63, 5);
         // loaded twice it would not find place again
-        house(sentence).text(eleven).then("load() = 11").keeps("fault(0) = 35", "fault(1) = 5", "load() = -2").times(6, "cancel(0)").keeps("fault(0) = -4")
-            .changes("load() = 11");
+        house(sentence).text(eleven).then("load() = 11").keeps("fault(0) = 35", "fault(1) = 5", "load() = -2")
+                .times(6, "cancel(0)").keeps("fault(0) = -4").changes("load() = 11");
     }
 
     private Story nearlyAllEnergy() {
-        return house("6 the energy of all sounds would be too great, the last two with the entries ahead of it.").times(49, "sound(0, 9, 20, 1000000)", "cancel(0)");
+        return house("6 the energy of all sounds would be too great, the last two with the entries ahead of it.").times(49,
+                        "sound(0, 9, 20, 1000000)", "cancel(0)");
     }
 
     private void energyAhead() {
@@ -222,7 +247,8 @@ public final class TextsEdgesTest {
         isFaultless(all, "d0@3:1;", 1);
         hasFault(all, "d0@3:1;s0@3*1=1;", 7, 6);
         // loaded once it is told, and cannot be told once more
-        nearlyAllEnergy().text("s0@3*10=1000000;s0@3*1=1;").then("load() = 2").keeps("count(9) = 990000001", "fault(0) = 0", "fault(1) = 6");
+        nearlyAllEnergy().text("s0@3*10=1000000;s0@3*1=1;").then("load() = 2")
+                .keeps("count(9) = 990000001", "fault(0) = 0", "fault(1) = 6");
     }
 
     private void firstReason() {
@@ -244,33 +270,43 @@ public final class TextsEdgesTest {
     }
 
     private void askingForFaults() {
-        sentence("INVALID_ARGUMENT if what is out of range; NOT_FOUND if the text has no fault (also if it is empty).").keeps("fault(0) = -4", "fault(1) = -4",
-                "fault(-1) = -1", "fault(2) = -1", "fault(" + LEAST + ") = -1", "fault(" + MOST + ") = -1").text("x").keeps("fault(0) = 0", "fault(1) = 1",
-                "fault(2) = -1", "fault(-1) = -1");
+        sentence("INVALID_ARGUMENT if what is out of range; NOT_FOUND if the text has no fault (also if it is empty).")
+                .keeps("fault(0) = -4", "fault(1) = -4", "fault(-1) = -1", "fault(2) = -1", "fault(" + LEAST + ") = -1",
+                        "fault(" + MOST + ") = -1")
+                .text("x").keeps("fault(0) = 0", "fault(1) = 1", "fault(2) = -1", "fault(-1) = -1");
     }
 
     private void loading() {
-        house("Adds all entries of the text to the plan, in their order; the text stays.").then("sound(1, 4, 1, 50)", "planDoor(0, 5, 3)").text(
-                "s0@5*2=100;d0@4:9;s1@4*03=7;").changes("load() = 3").then("load() = 3").keeps("count(12) = 28", "count(2) = 5", "count(9) = 271", "plan(0, 4) = 50",
-                "plan(1, 4) = 9", "plan(2, 4) = 7", "plan(3, 4) = 3", "plan(4, 4) = 100", "fault(0) = -4").changes("load() = 3").then("load() = 3").keeps(
-                "plan(3, 4) = 9", "plan(4, 4) = 7", "plan(6, 4) = 100", "plan(7, 4) = 100", "count(9) = 492");
+        house("Adds all entries of the text to the plan, in their order; the text stays.")
+                .then("sound(1, 4, 1, 50)", "planDoor(0, 5, 3)").text("s0@5*2=100;d0@4:9;s1@4*03=7;").changes("load() = 3")
+                .then("load() = 3")
+                .keeps("count(12) = 28", "count(2) = 5", "count(9) = 271", "plan(0, 4) = 50", "plan(1, 4) = 9",
+                        "plan(2, 4) = 7", "plan(3, 4) = 3", "plan(4, 4) = 100", "fault(0) = -4")
+                .changes("load() = 3").then("load() = 3")
+                .keeps("plan(3, 4) = 9", "plan(4, 4) = 7", "plan(6, 4) = 100", "plan(7, 4) = 100", "count(9) = 492");
         // of equal steps the ones of the text come in its order, behind those that were told ahead of it
-        house("Adds all entries of the text to the plan, in their order").then("planDoor(0, 3, 5)").text("d0@3:6;d0@3:7;d0@3:8;").then("load() = 3").keeps(
-                "plan(0, 4) = 5", "plan(1, 4) = 6", "plan(2, 4) = 7", "plan(3, 4) = 8").then("pass(1)").keeps("doorOf(0, 6) = 8", "count(2) = 0", "fault(1) = 4");
-        house("NOT_POSSIBLE if it has a fault.").text("d0@4:1;d0@4:2;x").keeps("load() = -2", "count(2) = 0", "count(9) = 0");
+        house("Adds all entries of the text to the plan, in their order").then("planDoor(0, 3, 5)")
+                .text("d0@3:6;d0@3:7;d0@3:8;").then("load() = 3")
+                .keeps("plan(0, 4) = 5", "plan(1, 4) = 6", "plan(2, 4) = 7", "plan(3, 4) = 8").then("pass(1)")
+                .keeps("doorOf(0, 6) = 8", "count(2) = 0", "fault(1) = 4");
+        house("NOT_POSSIBLE if it has a fault.").text("d0@4:1;d0@4:2;x")
+                .keeps("load() = -2", "count(2) = 0", "count(9) = 0");
         // an entry that is told or cancelled by other calls is none of the text
-        house("the text stays").text("s1@4*2=7;").then("load() = 1", "cancel(0) = 0").keeps("count(9) = 14", "count(12) = 9").changes("load() = 1");
+        house("the text stays").text("s1@4*2=7;").then("load() = 1", "cancel(0) = 0")
+                .keeps("count(9) = 14", "count(12) = 9").changes("load() = 1");
     }
 
     private void loadingNothing() {
-        sentence("They are one change, also if there are none.").changes("load() = 0").then("load()").keeps("count(11) = 1", "count(2) = 0").changes("load() = 0")
-            .then("load()", "load()", "load()").keeps("count(11) = 4").changes("load() = 0").then("load()").keeps("count(11) = 4");
-        house("They are one change").text("d0@4:1;d0@4:2;d0@4:3;d0@4:4;d0@4:5;").changes("load() = 5").then("load()").keeps("count(2) = 5").then("undo() = 3")
-            .keeps("count(2) = 0", "fault(0) = -4");
+        sentence("They are one change, also if there are none.").changes("load() = 0").then("load()")
+                .keeps("count(11) = 1", "count(2) = 0").changes("load() = 0").then("load()", "load()", "load()")
+                .keeps("count(11) = 4").changes("load() = 0").then("load()").keeps("count(11) = 4");
+        house("They are one change").text("d0@4:1;d0@4:2;d0@4:3;d0@4:4;d0@4:5;").changes("load() = 5").then("load()")
+                .keeps("count(2) = 5").then("undo() = 3").keeps("count(2) = 0", "fault(0) = -4");
     }
 
     private void textsAndUndo() {
-        house("each change records everything before it but the text").text("d0@4:1;").then("load()").text("d0@4:2;d0@4:3;").then("undo() = 3").keeps("count(12) = 14",
-                "count(2) = 0", "fault(0) = -4").changes("load() = 2").then("clearText()", "undo() = 2").keeps("count(12) = 0");
+        house("each change records everything before it but the text").text("d0@4:1;").then("load()")
+                .text("d0@4:2;d0@4:3;").then("undo() = 3").keeps("count(12) = 14", "count(2) = 0", "fault(0) = -4")
+                .changes("load() = 2").then("clearText()", "undo() = 2").keeps("count(12) = 0");
     }
 }
