@@ -278,6 +278,13 @@ public final class RoomsAndDoorsEdgesTest {
         sentence("7: doors that it has").then("room(100, 0)", "room(100, 0)", "room(100, 0)").keeps("roomOf(0, 7) = 0")
                 .times(10, "door(0, 1, 1, 1, 0)").then("door(1, 8, 1, 1, 0)", "door(2, 0, 1, 1, 0)")
                 .keeps("roomOf(0, 7) = 11", "roomOf(1, 7) = 11", "roomOf(2, 7) = 1");
+        sentence("5: what it has absorbed; 6: what sounds have given to it").then("room(10, 100)", "room(10, 0)", "sound(0, 0, 3, 95)")
+                .keeps("roomOf(0, 5) = 0", "roomOf(0, 6) = 0")
+                // 95, 85 + 95, 162 + 95 and 231 without a sound
+                .then("pass(1)").keeps("roomOf(0, 5) = 10", "roomOf(0, 6) = 95", "count(6) = 10")
+                .then("pass(1)").keeps("roomOf(0, 5) = 28", "roomOf(0, 6) = 190", "count(6) = 28")
+                .then("pass(1)").keeps("roomOf(0, 5) = 54", "roomOf(0, 6) = 285", "count(6) = 54", "roomOf(0, 2) = 231")
+                .then("pass(1)").keeps("roomOf(0, 5) = 78", "roomOf(0, 6) = 285", "roomOf(1, 5) = 0", "count(6) = 78", "count(8) = 285");
         sentence("NOT_FOUND for 4 if there is none.").then("room(10, 1000)", "sound(0, 0, 2, 5)", "pass(1)")
                 .keeps("roomOf(0, 2) = 0", "roomOf(0, 4) = -4", "roomOf(0, 5) = 5", "roomOf(0, 6) = 5",
                         "roomOf(0, -1) = -1", "roomOf(0, 9) = -1", "roomOf(1, 4) = -1");

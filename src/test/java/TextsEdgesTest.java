@@ -74,8 +74,12 @@ public final class TextsEdgesTest {
         // each of them is one that an entry may consist of, or a fault
         for (int character = 32; character <= 126; character++) {
             boolean isDigit = character >= '0' && character <= '9';
-            Run run = new Run(check).after("room(10, 0)", "door(0, 8, 1, 1, 0)").text("d0@" + (char) character + ":1;");
-            run.calls("count(12) = 7", "fault(1) = " + (isDigit ? -4 : 1), "load() = " + (isDigit ? 1 : -2));
+            // where a number begins, and behind its first digit
+            for (String begin : new String[] {"d0@", "d0@3"}) {
+                String text = begin + (char) character + ":1;";
+                new Run(check).after("room(10, 0)", "door(0, 8, 1, 1, 0)").text(text).calls("count(12) = " + text.length(),
+                        "fault(1) = " + (isDigit ? -4 : 1), "load() = " + (isDigit ? 1 : -2));
+            }
         }
     }
 
@@ -87,6 +91,10 @@ public final class TextsEdgesTest {
         house("Empties the text.").text("d0@9:1;d0@9:2;").text("d0@9:1")
                 .keeps("fault(0) = 0", "fault(1) = 1", "load() = -2").then("type(59) = 7").keeps("fault(0) = -4")
                 .changes("load() = 1");
+        // a fault that was told is forgotten
+        check.promise("\"Empties the text.\"");
+        new Run(check).text("x").calls("fault(0) = 0", "fault(1) = 1", "clearText() = 1", "fault(0) = -4", "fault(1) = -4", "load() = 0")
+                .text("y").calls("load() = -2", "clearText() = 1", "load() = 0");
         house("Empties the text.").text("x").then("clearText()").keeps("fault(0) = -4").changes("load() = 0");
     }
 
